@@ -20,6 +20,9 @@ public final class Beamrow {
     private static final int FIRST_BACK = 47;
     private static final int LAST_BACK = 16;
 
+    /** How many of the kept ticks are ahead of the first time. */
+    private static final int FIRST_PLACE = KEPT - 1 - FIRST_BACK;
+
     /** A gain of 64 leaves a sample as it is. */
     private static final int EVEN_GAIN = 64;
     private static final int LEAST_TRIM = 16;
@@ -29,6 +32,7 @@ public final class Beamrow {
     private final Element[] elements = new Element[MOST_ELEMENTS];
     private final Source[] sources = new Source[MOST_SOURCES];
     private final Hiss hiss = new Hiss();
+    private final long[] sums = new long[TIMES];
     private final long[] powers = new long[BEARINGS];
     private int elementCount;
     private int sourceCount;
@@ -130,7 +134,8 @@ public final class Beamrow {
         if (lowest == null) {
             throw new IllegalStateException("no element is alive");
         }
-        long squares = lowest.agreement(lowest, firstTime(), bearing, 0);
+        layAll();
+        long squares = lowest.agreement(lowest, bearing, 0);
         if (squares <= 0) {
             throw new IllegalStateException("the lowest element has heard nothing");
         }
@@ -143,31 +148,32 @@ public final class Beamrow {
         if (!isElement(element) || !isWithin(back, 0, KEPT - 1)) {
             throw new IndexOutOfBoundsException("no such element or back");
         }
-        return (int) elements[element].heardAt(nextTick - 1 - back);
+        return elements[element].keptAt(back);
     }
 
     public long sum(int bearing, int back) throws IndexOutOfBoundsException {
         if (!isBearing(bearing) || !isWithin(back, LAST_BACK, FIRST_BACK)) {
             throw new IndexOutOfBoundsException("no such bearing or back");
         }
-        weighAll();
-        tellAll(bearing, false);
-        return sumAt(FIRST_BACK - back);
+        layAll();
+        steer(bearing);
+        int time = FIRST_BACK - back;
+        return time >= 0 && time < sums.length ? sums[time] : 0;
     }
 
     public long power(int bearing) throws IndexOutOfBoundsException {
         if (!isBearing(bearing)) {
             throw new IndexOutOfBoundsException("no such bearing");
         }
-        weighAll();
-        return powerBySums(bearing, false);
+        layAll();
+        return powerBySums(bearing);
     }
 
     public long powerAnew(int bearing) throws IndexOutOfBoundsException {
         if (!isBearing(bearing)) {
             throw new IndexOutOfBoundsException("no such bearing");
         }
-        weighAll();
+        layAll();
         return powerByPairs(bearing);
     }
 
@@ -175,8 +181,8 @@ public final class Beamrow {
         if (!isWithin(hundredths, 1, 100)) {
             throw new IllegalArgumentException("hundredths is out of range");
         }
-        weighAll();
-        long greatest = fillPowers(false);
+        layAll();
+        long greatest = fillPowers();
         int many = 0;
         for (int i = 0; i < powers.length; i++) {
             if (isPeak(i) && powers[i] * 100 >= greatest * hundredths) {
@@ -190,16 +196,13 @@ public final class Beamrow {
         if (!isWithin(place, 0, LAST_PLACE)) {
             throw new IndexOutOfBoundsException("no such place");
         }
-        long allWeights = weighAll();
-        for (Element one : elements) {
-            one.leaveAll();
+        long allWeights = layAll();
+        int bearing = strongest();
+        for (int i = 0; i < place && bearing != NONE; i++) {
+            takeAway(bearing, allWeights);
+            bearing = strongest();
         }
-        int strongest = strongestLeft();
-        for (int i = 0; i < place && strongest != NONE; i++) {
-            takeAway(strongest, allWeights);
-            strongest = strongestLeft();
-        }
-        return strongest;
+        return bearing;
     }
 
     public int calibrated(int element, boolean isLag) throws IndexOutOfBoundsException {
@@ -234,7 +237,7 @@ public final class Beamrow {
             if (one.isUp()) {
                 // Drawn for dead elements too: what others hear must not hang on who is alive.
                 int drawn = hiss.draw();
-                one.keep(one.isLiving() ? one.turned(wavesAt(one)) + drawn : 0);
+                one.keep(one.isLiving() ? one.heardOf(wavesAt(one)) + drawn : 0);
             }
         }
         nextTick++;
@@ -249,14 +252,10 @@ public final class Beamrow {
         return waves;
     }
 
-    // ---- steering; the weights of weighAll hold until the end of a call
+    // ---- steering, of what layAll has laid out at the beginning of a call
 
-    private int firstTime() {
-        return nextTick - 1 - FIRST_BACK;
-    }
-
-    /** Gives each element its weight, 0 to those that are not alive, and returns all together. */
-    private long weighAll() {
+    /** Gives each element its weight and lays its samples out; returns all weights together. */
+    private long layAll() {
         int living = 0;
         for (Element one : elements) {
             living += one.isLiving() ? 1 : 0;
@@ -269,7 +268,7 @@ public final class Beamrow {
                 weight = weightOf(place, living);
                 place++;
             }
-            one.setWeight(weight);
+            one.layOut(weight);
             all += weight;
         }
         return all;
@@ -286,55 +285,38 @@ public final class Beamrow {
         return 1;
     }
 
-    private void tellAll(int bearing, boolean ofLeft) {
-        int first = firstTime();
+    /** Fills the sums of a bearing at the 32 times. */
+    private void steer(int bearing) {
+        Arrays.fill(sums, 0);
         for (Element one : elements) {
-            if (one.getWeight() != 0) {
-                one.tell(first, bearing, ofLeft);
-            }
+            one.tellTo(sums, bearing);
         }
     }
 
-    /** The sum at one of the 32 times, of what was told last. */
-    private long sumAt(int time) {
-        long sum = 0;
-        for (Element one : elements) {
-            if (one.getWeight() != 0) {
-                sum += one.getWeight() * one.toldAt(time);
-            }
+    private long powerBySums(int bearing) {
+        steer(bearing);
+        long together = 0;
+        for (long one : sums) {
+            together += one * one;
         }
-        return sum;
-    }
-
-    private long powerBySums(int bearing, boolean ofLeft) {
-        tellAll(bearing, ofLeft);
-        long power = 0;
-        for (int time = 0; time < TIMES; time++) {
-            long sum = sumAt(time);
-            power += sum * sum;
-        }
-        return power;
+        return together;
     }
 
     private long powerByPairs(int bearing) {
-        tellAll(bearing, false);
-        long power = 0;
+        long together = 0;
         for (Element one : elements) {
             for (Element other : elements) {
-                long weights = one.getWeight() * other.getWeight();
-                if (weights != 0) {
-                    power += weights * one.toldTogether(other);
-                }
+                together += one.toldWith(other, bearing);
             }
         }
-        return power;
+        return together;
     }
 
     /** Fills the powers of all bearings, and returns the greatest one. */
-    private long fillPowers(boolean ofLeft) {
+    private long fillPowers() {
         long greatest = 0;
         for (int i = 0; i < powers.length; i++) {
-            powers[i] = powerBySums(i - LAST_BEARING, ofLeft);
+            powers[i] = powerBySums(i - LAST_BEARING);
             greatest = Math.max(greatest, powers[i]);
         }
         return greatest;
@@ -352,8 +334,8 @@ public final class Beamrow {
 
     // ---- finding sources one by one
 
-    private int strongestLeft() {
-        long greatest = fillPowers(true);
+    private int strongest() {
+        long greatest = fillPowers();
         if (greatest <= 0) {
             return NONE;
         }
@@ -369,15 +351,16 @@ public final class Beamrow {
         if (allWeights <= 0) {
             return;
         }
-        // All is told ahead of the first taking, so every mean is of samples as they were.
-        tellAll(bearing, true);
-        for (int time = 0; time < TIMES; time++) {
-            long mean = Math.floorDiv(sumAt(time), allWeights);
+        // All sums stand ahead of the first taking, so every mean is of samples as they were.
+        steer(bearing);
+        for (int time = 0; time < sums.length; time++) {
+            long mean = Math.floorDiv(sums[time], allWeights);
             for (Element one : elements) {
-                if (one.getWeight() != 0) {
-                    one.takeAway(firstTime() + time, bearing, mean);
-                }
+                one.takeAway(time, bearing, mean);
             }
+        }
+        for (Element one : elements) {
+            one.turnAll();
         }
     }
 
@@ -403,14 +386,14 @@ public final class Beamrow {
         return changed;
     }
 
-    private boolean fit(Element one, Element lowest, long squares, int bearing) {
+    private static boolean fit(Element one, Element lowest, long squares, int bearing) {
         if (squares <= 0) {
             return false;
         }
         int bestLag = -LAST_LAG;
-        long best = one.agreement(lowest, firstTime(), bearing, bestLag);
+        long best = one.agreement(lowest, bearing, bestLag);
         for (int lag = bestLag + 1; lag <= LAST_LAG; lag++) {
-            long agreement = one.agreement(lowest, firstTime(), bearing, lag);
+            long agreement = one.agreement(lowest, bearing, lag);
             if (agreement > best) {
                 best = agreement;
                 bestLag = lag;
@@ -467,7 +450,7 @@ public final class Beamrow {
 
     /** Samples of the latest ticks, each in the slot of its tick. */
     private static final class Tape {
-        private final long[] slots = new long[KEPT];
+        private final int[] slots = new int[KEPT];
         private int begin;
         private int end;
 
@@ -476,7 +459,7 @@ public final class Beamrow {
             end = tick;
         }
 
-        void add(long value) {
+        void add(int value) {
             int slot = slotOf(end);
             if (slot < slots.length) {
                 slots[slot] = value;
@@ -484,26 +467,14 @@ public final class Beamrow {
             end++;
         }
 
-        long at(int tick) {
-            int slot = slotOf(tick);
-            return keeps(tick) && slot < slots.length ? slots[slot] : 0;
+        /** The sample that is so many ticks behind the oldest one of which any can be kept. */
+        int at(int place) {
+            int slot = slotOf(end - KEPT + place);
+            return keeps(place) && slot < slots.length ? slots[slot] : 0;
         }
 
-        void takeFrom(int tick, long amount) {
-            int slot = slotOf(tick);
-            if (keeps(tick) && slot < slots.length) {
-                slots[slot] -= amount;
-            }
-        }
-
-        void copyOf(Tape other) {
-            System.arraycopy(other.slots, 0, slots, 0, Math.min(slots.length, other.slots.length));
-            begin = other.begin;
-            end = other.end;
-        }
-
-        private boolean keeps(int tick) {
-            return tick >= begin && tick < end && tick >= end - KEPT;
+        boolean keeps(int place) {
+            return place >= 0 && place < KEPT && end - KEPT + place >= begin;
         }
 
         private static int slotOf(int tick) {
@@ -511,12 +482,13 @@ public final class Beamrow {
         }
     }
 
-    /** A place for an element: it is up from its coming on; one that is not up is not alive. */
+    /** Room for an element: it is up from its coming on; one that is not up is not alive. */
     private static final class Element {
-        private final Tape heard = new Tape();
-        /** What is left of the samples while sources are taken away. */
-        private final Tape left = new Tape();
-        private final long[] told = new long[TIMES];
+        private final Tape tape = new Tape();
+        /** The samples from the oldest one on; what is found is taken away here, not on the tape. */
+        private final long[] laid = new long[KEPT];
+        /** These samples turned by the gain that is known by calibration. */
+        private final long[] turned = new long[KEPT];
         private boolean up;
         private boolean living;
         private int position;
@@ -524,6 +496,7 @@ public final class Beamrow {
         private int lag;
         private int trimGain = EVEN_GAIN;
         private int trimLag;
+        /** Above 0 only while it is alive. */
         private long weight;
 
         void putUp(int itsPosition, int itsGain, int itsLag, int tick) {
@@ -532,7 +505,7 @@ public final class Beamrow {
             position = itsPosition;
             gain = itsGain;
             lag = itsLag;
-            heard.beginAt(tick);
+            tape.beginAt(tick);
         }
 
         boolean isUp() {
@@ -567,70 +540,93 @@ public final class Beamrow {
             return isOther;
         }
 
-        long getWeight() {
-            return weight;
-        }
-
-        void setWeight(int itsWeight) {
-            weight = itsWeight;
-        }
-
         int delayFor(int bearing) {
             return Math.floorDiv(position * bearing, 4);
         }
 
-        int turned(int waves) {
+        int heardOf(int waves) {
             return Math.floorDiv(waves * gain, EVEN_GAIN);
         }
 
         void keep(int value) {
-            heard.add(value);
+            tape.add(value);
         }
 
-        long heardAt(int tick) {
-            return heard.at(tick);
+        int keptAt(int back) {
+            return tape.at(KEPT - 1 - back);
         }
 
-        void leaveAll() {
-            left.copyOf(heard);
-        }
-
-        /** Fills the row of what the element tells of the 32 times, from the first one on. */
-        void tell(int first, int bearing, boolean ofLeft) {
-            Tape tape = ofLeft ? left : heard;
-            int start = first + delayFor(bearing) + trimLag;
-            for (int i = 0; i < told.length; i++) {
-                told[i] = trimGain > 0 ? Math.floorDiv(tape.at(start + i) * EVEN_GAIN, (long) trimGain) : 0;
+        void layOut(int itsWeight) {
+            weight = itsWeight;
+            if (weight > 0) {
+                for (int i = 0; i < laid.length; i++) {
+                    laid[i] = tape.at(i);
+                }
+                turnAll();
             }
         }
 
-        long toldAt(int time) {
-            return time >= 0 && time < told.length ? told[time] : 0;
+        void turnAll() {
+            if (weight > 0 && trimGain > 0) {
+                for (int i = 0; i < turned.length && i < laid.length; i++) {
+                    turned[i] = Math.floorDiv(laid[i] * EVEN_GAIN, (long) trimGain);
+                }
+            }
         }
 
-        /** The products of what both tell, over all times. */
-        long toldTogether(Element other) {
+        /** Where the sample stands that is told of the first time for a bearing. */
+        private int firstTold(int bearing) {
+            return FIRST_PLACE + delayFor(bearing) + trimLag;
+        }
+
+        private long toldAt(int place) {
+            return place >= 0 && place < turned.length ? turned[place] : 0;
+        }
+
+        private long laidAt(int place) {
+            return place >= 0 && place < laid.length ? laid[place] : 0;
+        }
+
+        /** Adds what it tells of the times, by its weight, to their sums. */
+        void tellTo(long[] sums, int bearing) {
+            if (weight > 0) {
+                int first = firstTold(bearing);
+                for (int i = 0; i < sums.length; i++) {
+                    sums[i] += weight * toldAt(first + i);
+                }
+            }
+        }
+
+        /** The products of what both tell, each by its weight, over all times. */
+        long toldWith(Element other, int bearing) {
             long together = 0;
-            for (int i = 0; i < told.length && i < other.told.length; i++) {
-                together += told[i] * other.told[i];
+            if (weight > 0 && other.weight > 0) {
+                int first = firstTold(bearing);
+                int others = other.firstTold(bearing);
+                for (int i = 0; i < TIMES; i++) {
+                    together += toldAt(first + i) * other.toldAt(others + i);
+                }
             }
-            return together;
+            return together * weight * other.weight;
         }
 
         /** Takes a mean from the sample that is told of a time; gains do not turn the mean. */
         void takeAway(int time, int bearing, long mean) {
-            left.takeFrom(time + delayFor(bearing) + trimLag, mean);
+            int place = firstTold(bearing) + time;
+            if (weight > 0 && tape.keeps(place) && place >= 0 && place < laid.length) {
+                laid[place] -= mean;
+            }
         }
 
         /** How well this one's samples, so much later, go with the other's, whatever is known. */
-        long agreement(Element other, int first, int bearing, int later) {
-            int own = first + delayFor(bearing) + later;
-            int its = first + other.delayFor(bearing);
-            long agreement = 0;
+        long agreement(Element other, int bearing, int later) {
+            int first = FIRST_PLACE + delayFor(bearing) + later;
+            int others = FIRST_PLACE + other.delayFor(bearing);
+            long together = 0;
             for (int i = 0; i < TIMES; i++) {
-                agreement += heard.at(own + i) * other.heard.at(its + i);
+                together += laidAt(first + i) * other.laidAt(others + i);
             }
-            return agreement;
+            return together;
         }
     }
 }
