@@ -10,6 +10,7 @@ public final class CalibrateTest {
         gainsAreRoundedDown();
         othersAreHeldToTheLowestLivingOne();
         calibrationLooksAtSamplesAsKept();
+        calibrationLooksAtThe32TimesAlone();
         calibrateRefusesInOrder();
         calibratedRefusesNoElement();
         Check.end();
@@ -200,6 +201,20 @@ public final class CalibrateTest {
         row.window(Beamrow.ENDS);
         row.found(5);
         Check.due("windows and finding do not matter", 0, row.calibrate(0));
+    }
+
+    private static void calibrationLooksAtThe32TimesAlone() {
+        Beamrow row = new Beamrow();
+        row.element(0, 64, 0);
+        row.source(0, 9, 2);
+        row.hear(1);
+        row.silence();
+        for (int back = 0; back < 64; back++) {
+            boolean isSeen = back >= 16 && back <= 47;
+            Check.dueThrow("calibrate with a sample " + back + " back", isSeen ? Check.NOTHING : Check.STATE,
+                    () -> row.calibrate(0));
+            row.hear(1);
+        }
     }
 
     private static void calibrateRefusesInOrder() {

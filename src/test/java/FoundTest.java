@@ -50,19 +50,24 @@ public final class FoundTest {
         dueFound("taken whole by ENDS", row, -4, Beamrow.NONE);
     }
 
-    private static void meansAreRoundedDown() {
-        // Sums of 1 and -1 by two elements have the means 0 and -1: the first stays, the other goes on.
+    /** One element with one sample, 1 at even ticks and -1 at odd ones, and a second one behind it. */
+    private static Beamrow oneSampleOfTwo(int tick) {
         Beamrow row = new Beamrow();
         row.element(0, 64, 0);
+        row.hear(tick);
+        row.source(0, 1, 2);
+        row.hear(1);
+        row.silence();
+        row.hear(30);
         row.element(0, 64, 0);
-        row.alive(1, false);
-        row.source(0, 1, 16);
-        row.hear(64);
-        row.alive(1, true);
-        Check.due("power", 32, row.power(0));
-        // Behind the first finding: 1, 0 where the sum was 1, and 0, 1 where it was -1: all sums are 1.
-        // All means are 0 then: nothing changes any more.
-        dueFound("means of halves", row, -4, -4, -4, -4, -4, -4);
+        return row;
+    }
+
+    private static void meansAreRoundedDown() {
+        // The mean of -1 and nothing is -1: the sum is 0 then.
+        dueFound("-1 by two", oneSampleOfTwo(9), -4, Beamrow.NONE);
+        // The mean of 1 and nothing is 0: it is found again and again.
+        dueFound("1 by two", oneSampleOfTwo(10), -4, -4, -4, -4, -4, -4);
     }
 
     private static void meansAreNotTurnedByGains() {

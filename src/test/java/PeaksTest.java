@@ -5,6 +5,7 @@ public final class PeaksTest {
         atLeastSoManyHundredths();
         alikeNeighboursAreNoPeak();
         theLastBearingsHaveOneNeighbour();
+        theLeastPowerIsAPeak();
         noPowerNoPeak();
         peaksRefuseWhatIsOutOfRange();
         Check.end();
@@ -79,6 +80,20 @@ public final class PeaksTest {
             Check.due("its power", 51200, row.power(bearing));
             Check.due("it is found", bearing, row.found(0));
         }
+    }
+
+    private static void theLeastPowerIsAPeak() {
+        // By its delay of -12 the bearing -4 alone looks at a sample that is 59 back.
+        Beamrow row = new Beamrow();
+        row.element(12, 64, 0);
+        row.source(0, 1, 2);
+        row.hear(1);
+        row.silence();
+        row.hear(59);
+        Check.due("power of -4", 1, row.power(-4));
+        Check.due("power of -3", 0, row.power(-3));
+        Check.due("a peak of 1", 1, row.peaks(100));
+        Check.due("it is found", -4, row.found(0));
     }
 
     private static void noPowerNoPeak() {

@@ -32,21 +32,12 @@ public final class SteeringTest {
         Check.due("the window stands", Beamrow.TENT, row.window(Beamrow.BOX));
     }
 
-    /** Elements whose samples of all times are 1, 10, 100 and so on (strengths of one source each). */
-    private static Beamrow steadyRow(int many) {
-        Beamrow row = new Beamrow();
-        for (int i = 0; i < many; i++) {
-            row.element(0, 64, 0);
-        }
-        // Only one element lives at a time, so each hears a strength of its own at odd times.
-        return row;
-    }
-
     /** The weight of each element, found by letting it alone have a sample that is not 0. */
     private static void dueWeights(String what, int window, boolean[] living, int... want) {
         for (int heard = 0; heard < want.length; heard++) {
-            Beamrow row = steadyRow(want.length);
+            Beamrow row = new Beamrow();
             for (int i = 0; i < want.length; i++) {
+                row.element(0, 64, 0);
                 row.alive(i, i == heard);
             }
             row.source(0, 7, 2);
