@@ -295,6 +295,10 @@ public final class Beamrow {
 
     private long powerBySums(int bearing) {
         steer(bearing);
+        return squaresOfSums();
+    }
+
+    private long squaresOfSums() {
         long together = 0;
         for (long one : sums) {
             together += one * one;
@@ -316,7 +320,8 @@ public final class Beamrow {
     private long fillPowers() {
         long greatest = 0;
         for (int i = 0; i < powers.length; i++) {
-            powers[i] = powerBySums(i - LAST_BEARING);
+            steer(i - LAST_BEARING);
+            powers[i] = squaresOfSums();
             greatest = Math.max(greatest, powers[i]);
         }
         return greatest;

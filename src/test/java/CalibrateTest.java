@@ -4,13 +4,24 @@ public final class CalibrateTest {
         gainsAndLagsAreFound();
         changesAreCounted();
         lagsAreFoundBehindDelays();
+        theLastBearingsAreTaken();
         alikeAgreementsTakeTheLowestLag();
+        lagsAreBounded();
         gainsAreBounded();
+        gainsAtTheirBounds();
         agreementsBelow0AreHeldApart();
         gainsAreRoundedDown();
         othersAreHeldToTheLowestLivingOne();
+        oneAloneIsHeldToNothing();
+        allEightAreHeld();
+        oneThatComesLateAgreesFromItsComing();
+        oneThatComesTooLateDoesNotAgree();
         calibrationLooksAtSamplesAsKept();
+        theLowestOnesSamplesAreAsKeptToo();
+        windowsDoNotWeighAgreements();
         calibrationLooksAtThe32TimesAlone();
+        agreementsAreOfThe32TimesAlone();
+        agreementsOfTheFarthestTicks();
         calibrateRefusesInOrder();
         calibratedRefusesNoElement();
         Check.end();
@@ -249,5 +260,178 @@ public final class CalibrateTest {
             Check.dueThrow("calibrated of no element", Check.INDEX, () -> row.calibrated(element, false));
         }
         dueCalibrated("at first", row, 0, 64, 0);
+    }
+
+    private static Beamrow twoAt(int first, int second) {
+        Beamrow row = new Beamrow();
+        row.element(first, 64, 0);
+        row.element(second, 64, 0);
+        return row;
+    }
+
+    private static void theLastBearingsAreTaken() {
+        // The delay is three times the bearing: -4 looks at ticks 4 to 35, 4 at ticks 28 to 59.
+        int[][] seen = {{-4, 3, Check.STATE}, {-4, 4, Check.NOTHING}, {-4, 35, Check.NOTHING},
+            {-4, 36, Check.STATE}, {4, 27, Check.STATE}, {4, 28, Check.NOTHING}, {4, 59, Check.NOTHING},
+            {4, 60, Check.STATE}};
+        for (int[] one : seen) {
+            for (int heard = -1; heard <= 1; heard += 2) {
+                Beamrow row = new Beamrow();
+                row.element(12, 64, 0);
+                Sounds.play(row, 1, 64, new int[] {one[1], 0, heard});
+                Check.dueThrow("calibrate(" + one[0] + ") with " + heard + " at tick " + one[1], one[2],
+                        () -> row.calibrate(one[0]));
+            }
+        }
+    }
+
+    private static void lagsAreBounded() {
+        for (int later = -5; later <= 5; later++) {
+            Beamrow row = twoAt(0, 0);
+            Sounds.play(row, 2, 64, new int[] {31, 0, 64}, new int[] {31 + later, 1, 64});
+            boolean isNear = later >= -3 && later <= 3;
+            Check.due("changed by " + later, later == 0 ? 0 : 1, row.calibrate(0));
+            dueCalibrated("later by " + later, row, 1, isNear ? 64 : 16, isNear ? later : -3);
+        }
+        Beamrow row = twoAt(0, 0);
+        Sounds.play(row, 2, 64, new int[] {31, 0, 64}, new int[] {28, 1, 20}, new int[] {34, 1, 20});
+        row.calibrate(0);
+        dueCalibrated("the least and the greatest lag alike", row, 1, 20, -3);
+        row = twoAt(0, 0);
+        Sounds.play(row, 2, 64, new int[] {31, 0, 64}, new int[] {28, 1, 20}, new int[] {34, 1, 21});
+        row.calibrate(0);
+        dueCalibrated("the greatest lag is the better one", row, 1, 21, 3);
+    }
+
+    private static void gainsAtTheirBounds() {
+        int[][] gains = {{1, 16}, {15, 16}, {16, 16}, {17, 17}, {63, 63}, {65, 65}, {254, 254}, {255, 255},
+            {256, 255}, {400, 255}};
+        for (int[] one : gains) {
+            // The squares are 64 times 64: the gain is what the other one has heard.
+            Beamrow row = twoAt(0, 0);
+            Sounds.play(row, 2, 64, new int[] {31, 0, 64}, new int[] {32, 1, one[0]});
+            row.calibrate(0);
+            dueCalibrated("heard " + one[0], row, 1, one[1], 1);
+            row = twoAt(0, 0);
+            Sounds.play(row, 2, 64, new int[] {31, 0, -64}, new int[] {32, 1, -one[0]});
+            row.calibrate(0);
+            dueCalibrated("heard -" + one[0], row, 1, one[1], 1);
+        }
+    }
+
+    private static void oneAloneIsHeldToNothing() {
+        Beamrow row = new Beamrow();
+        row.element(5, 64, 0);
+        Sounds.play(row, 1, 64, new int[] {31, 0, 1});
+        Check.due("none changes", 0, row.calibrate(0));
+        dueCalibrated("alone", row, 0, 64, 0);
+    }
+
+    private static void allEightAreHeld() {
+        Beamrow row = new Beamrow();
+        for (int i = 0; i < 8; i++) {
+            row.element(i, i == 0 ? 64 : 32 + 8 * (i % 4), i % 4 - 1);
+        }
+        row.source(0, 64, 16);
+        row.hear(64);
+        Check.due("seven change", 7, row.calibrate(0));
+        for (int i = 1; i < 8; i++) {
+            dueCalibrated("all eight", row, i, 32 + 8 * (i % 4), i % 4);
+        }
+        Check.due("none changes again", 0, row.calibrate(0));
+    }
+
+    private static void oneThatComesLateAgreesFromItsComing() {
+        Beamrow row = new Beamrow();
+        row.element(0, 64, 0);
+        Sounds.play(row, 1, 34, new int[] {31, 0, 64});
+        row.element(0, 64, 0);
+        Sounds.play(row, 2, 64, new int[] {34, 1, 40});
+        Check.due("its first tick agrees", 1, row.calibrate(0));
+        dueCalibrated("its first tick", row, 1, 40, 3);
+    }
+
+    private static void oneThatComesTooLateDoesNotAgree() {
+        Beamrow row = new Beamrow();
+        row.element(0, 64, 0);
+        row.source(0, 64, 2);
+        row.hear(64);
+        row.element(0, 64, 0);
+        Check.due("nothing of it is kept", 1, row.calibrate(0));
+        dueCalibrated("nothing of it is kept", row, 1, 16, -3);
+        Check.due("none changes again", 0, row.calibrate(0));
+    }
+
+    private static void agreementsAreOfThe32TimesAlone() {
+        // The times are 16 to 47: a lag of 1 would fit to what the lowest has heard beside them.
+        Beamrow row = twoAt(0, 0);
+        Sounds.play(row, 2, 64, new int[] {15, 0, 64}, new int[] {20, 0, 64}, new int[] {16, 1, 64},
+                new int[] {22, 1, 64});
+        row.calibrate(0);
+        dueCalibrated("ahead of the times", row, 1, 64, 2);
+        row = twoAt(0, 0);
+        Sounds.play(row, 2, 64, new int[] {48, 0, 64}, new int[] {40, 0, 64}, new int[] {49, 1, 64},
+                new int[] {42, 1, 64});
+        row.calibrate(0);
+        dueCalibrated("behind the times", row, 1, 64, 2);
+        row = twoAt(0, 0);
+        Sounds.play(row, 2, 64, new int[] {16, 0, 64}, new int[] {47, 0, 64}, new int[] {17, 1, 64},
+                new int[] {48, 1, 64});
+        row.calibrate(0);
+        dueCalibrated("the first time and the last", row, 1, 64, 1);
+    }
+
+    private static void agreementsOfTheFarthestTicks() {
+        // The second is 12 behind by 4, and 12 ahead by -4; its lags are 3 more at the most.
+        int[][] told = {{-4, 16, 1, 64, -3}, {-4, 16, 0, 16, -3}, {4, 47, 62, 64, 3}, {4, 47, 63, 16, -3}};
+        for (int[] one : told) {
+            Beamrow row = twoAt(0, 12);
+            Sounds.play(row, 2, 64, new int[] {one[1], 0, 64}, new int[] {one[2], 1, 64});
+            row.calibrate(one[0]);
+            dueCalibrated("bearing " + one[0] + ", tick " + one[2], row, 1, one[3], one[4]);
+        }
+    }
+
+    private static void theLowestOnesSamplesAreAsKeptToo() {
+        Beamrow row = new Beamrow();
+        row.element(0, 64, 0);
+        row.element(0, 32, 2);
+        row.element(0, 96, 1);
+        row.source(0, 50, 16);
+        row.hear(64);
+        row.calibrate(0);
+        dueCalibrated("held to the first", row, 1, 32, 2);
+        dueCalibrated("held to the first", row, 2, 96, 1);
+        row.alive(0, false);
+        Check.due("both change", 2, row.calibrate(0));
+        dueCalibrated("the lowest now", row, 1, 64, 0);
+        dueCalibrated("held to it as it is kept", row, 2, 192, -1);
+        // By a gain of 255 the second tells 3 as 0: its squares would be 0 by what it tells.
+        row = twoAt(0, 0);
+        row.element(0, 64, 0);
+        Sounds.play(row, 3, 40, new int[] {10, 0, 64}, new int[] {11, 1, 255});
+        row.calibrate(0);
+        dueCalibrated("held to the first", row, 1, 255, 1);
+        Sounds.play(row, 3, 100, new int[] {60, 1, 3}, new int[] {61, 2, 5});
+        row.alive(0, false);
+        Check.due("told as 0", 0, row.sum(0, 40));
+        Check.due("both change again", 2, row.calibrate(0));
+        dueCalibrated("the lowest now", row, 1, 64, 0);
+        dueCalibrated("held to it as it is kept", row, 2, 106, 1);
+    }
+
+    private static void windowsDoNotWeighAgreements() {
+        for (int window = Beamrow.BOX; window <= Beamrow.ENDS; window++) {
+            Beamrow row = new Beamrow();
+            row.element(0, 64, 0);
+            row.element(0, 32, 1);
+            row.element(0, 96, 2);
+            row.source(0, 50, 16);
+            row.hear(64);
+            row.window(window);
+            row.calibrate(0);
+            dueCalibrated("window " + window, row, 1, 32, 1);
+            dueCalibrated("window " + window, row, 2, 96, 2);
+        }
     }
 }

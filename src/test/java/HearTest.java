@@ -6,7 +6,9 @@ public final class HearTest {
         samplesOf64TicksAreKept();
         samplesAheadOfTick0AreNone();
         sampleRefusesWhatIsNotThere();
+        oneByOneOrAllAtOnce();
         longRunsKeepTheLatest();
+        theLastOf512Calls();
         Check.end();
     }
 
@@ -82,12 +84,47 @@ public final class HearTest {
         Beamrow row = new Beamrow();
         row.element(0, 64, 0);
         row.source(0, 9, 7);
-        for (int i = 1; i <= 500; i++) {
+        for (int i = 1; i <= 440; i++) {
             Check.due("hear", 100 * i, row.hear(100));
         }
         for (int back = 0; back < 64; back++) {
-            int tick = 49999 - back;
+            int tick = 43999 - back;
             Check.due("sample of tick " + tick, tick % 7 < 3 ? 9 : -9, row.sample(0, back));
         }
+    }
+
+    private static void oneByOneOrAllAtOnce() {
+        Beamrow one = new Beamrow();
+        Beamrow other = new Beamrow();
+        for (Beamrow row : new Beamrow[] {one, other}) {
+            row.element(0, 64, 0);
+            row.element(7, 50, -2);
+            row.source(-3, 40, 11);
+            row.noise(20, 5);
+        }
+        for (int i = 0; i < 100; i++) {
+            one.hear(1);
+        }
+        other.hear(100);
+        for (int back = 0; back < 64; back++) {
+            Check.due("one by one", other.sample(0, back), one.sample(0, back));
+            Check.due("one by one", other.sample(1, back), one.sample(1, back));
+        }
+    }
+
+    private static void theLastOf512Calls() {
+        Beamrow row = new Beamrow();
+        for (int i = 1; i <= 512; i++) {
+            Check.due("call " + i, 100 * i, row.hear(100));
+        }
+        Beamrow other = new Beamrow();
+        other.element(0, 64, 0);
+        other.source(0, 9, 16);
+        for (int i = 3; i <= 510; i++) {
+            other.hear(100);
+        }
+        // 50800 ticks have gone by: the latest leaves 15 by 16, the oldest that is kept leaves 0.
+        Check.due("call 511", -9, other.sample(0, 0));
+        Check.due("call 512", 9, other.sample(0, 63));
     }
 }

@@ -6,6 +6,8 @@ public final class NoiseTest {
         noiseIsDrawnByRisingNumbers();
         noiseCanBeSetAnew();
         deadElementsDrawToo();
+        thoseNotThereDrawNothing();
+        theLeastAndTheGreatestNoise();
         noiseComesBehindTheGain();
         numbersAtTheEdge();
         Check.end();
@@ -72,6 +74,18 @@ public final class NoiseTest {
         row.hear(1);
         Check.due("the dead one gets 0", 0, row.sample(0, 0));
         Check.due("but has drawn ahead of the other", 33749 % 41 - 20, row.sample(1, 0));
+        row.alive(0, true);
+        row.alive(1, false);
+        row.hear(2);
+        Check.due("alive it draws on", 40843 % 41 - 20, row.sample(0, 1));
+        Check.due("the dead last one gets 0", 0, row.sample(1, 1));
+        Check.due("but has drawn", 40314 % 41 - 20, row.sample(0, 0));
+        row.alive(0, false);
+        row.hear(1);
+        row.alive(0, true);
+        row.hear(1);
+        // 8922 was drawn in the tick ahead, 13854 and 56069 while both were dead.
+        Check.due("both have drawn while both were dead", (75 * 56069 + 74) % 65537 % 41 - 20, row.sample(0, 0));
     }
 
     private static void noiseComesBehindTheGain() {
@@ -95,5 +109,40 @@ public final class NoiseTest {
         row.hear(2);
         Check.due("0 follows 45438", -50, row.sample(0, 1));
         Check.due("74 follows 0", 74 - 50, row.sample(0, 0));
+    }
+
+    private static void thoseNotThereDrawNothing() {
+        Beamrow row = new Beamrow();
+        row.noise(20, 5);
+        row.hear(3);
+        row.element(0, 64, 0);
+        row.hear(1);
+        Check.due("the first one draws first", 449 % 41 - 20, row.sample(0, 0));
+        row.element(0, 64, 0);
+        row.hear(1);
+        Check.due("the first one draws on", 33749 % 41 - 20, row.sample(0, 0));
+        Check.due("the second one draws behind it", 40843 % 41 - 20, row.sample(1, 0));
+    }
+
+    private static void theLeastAndTheGreatestNoise() {
+        Beamrow row = new Beamrow();
+        row.element(0, 64, 0);
+        row.noise(1, 5);
+        row.hear(4);
+        // 449 and 33749 leave 2 by 3, 40843 leaves 1, 48597 leaves 0.
+        Check.due("loudness 1, leaving 2", 1, row.sample(0, 3));
+        Check.due("loudness 1, leaving 2 again", 1, row.sample(0, 2));
+        Check.due("loudness 1, leaving 1", 0, row.sample(0, 1));
+        Check.due("loudness 1, leaving 0", -1, row.sample(0, 0));
+        // 100 follows 1748, and 0 follows 45438: by 101 they leave the most and the least.
+        row.noise(50, 1748);
+        row.hear(1);
+        Check.due("the greatest noise", 50, row.sample(0, 0));
+        row.noise(50, 45438);
+        row.hear(1);
+        Check.due("the least noise", -50, row.sample(0, 0));
+        row.noise(0, 1748);
+        row.hear(1);
+        Check.due("no loudness leaves nothing", 0, row.sample(0, 0));
     }
 }

@@ -3,8 +3,10 @@ public final class PeaksTest {
     public static void main(String[] args) {
         peaksOfOneSource();
         atLeastSoManyHundredths();
+        hundredthsThatAreJustMet();
         alikeNeighboursAreNoPeak();
         theLastBearingsHaveOneNeighbour();
+        theLastBearingsBelowOrAlikeTheirNeighbour();
         theLeastPowerIsAPeak();
         noPowerNoPeak();
         peaksRefuseWhatIsOutOfRange();
@@ -115,5 +117,60 @@ public final class PeaksTest {
             Check.dueThrow("peaks out of range", Check.ARGUMENT, () -> row.peaks(hundredths));
         }
         Check.due("peaks in range", 0, row.peaks(100));
+    }
+
+    /**
+     * One element whose delay is three times the bearing: the bearing -4 looks at ticks 4 to 35, the
+     * next one at ticks 7 to 38, and so on, 3 at ticks 25 to 56, and 4 at ticks 28 to 59.
+     */
+    private static Beamrow pulses(int[]... pulses) {
+        Beamrow row = new Beamrow();
+        row.element(12, 64, 0);
+        Sounds.play(row, 1, 64, pulses);
+        return row;
+    }
+
+    private static void hundredthsThatAreJustMet() {
+        Beamrow row = pulses(new int[] {4, 0, 1}, new int[] {59, 0, 10});
+        Check.due("the lesser power", 1, row.power(-4));
+        Check.due("the greater power", 100, row.power(4));
+        Check.due("just 1 hundredth", 2, row.peaks(1));
+        Check.due("1 hundredth is below 2", 1, row.peaks(2));
+        row = pulses(new int[] {4, 0, 1}, new int[] {58, 0, 1}, new int[] {59, 0, 10});
+        Check.due("the greatest power", 101, row.power(4));
+        Check.due("not just 1 hundredth", 1, row.peaks(1));
+        row = pulses(new int[] {4, 0, 9}, new int[] {59, 0, 10});
+        Check.due("just 81 hundredths", 2, row.peaks(81));
+        Check.due("81 hundredths are below 82", 1, row.peaks(82));
+        row = pulses(new int[] {4, 0, 10}, new int[] {59, 0, -10});
+        Check.due("alike powers that are no neighbours", 2, row.peaks(100));
+        row = pulses(new int[] {4, 0, 99}, new int[] {59, 0, 100});
+        Check.due("98.01 hundredths", 2, row.peaks(98));
+        Check.due("98.01 hundredths are below 99", 1, row.peaks(99));
+        // Nothing is rounded ahead of comparing.
+        row = pulses(new int[] {4, 0, 99}, new int[] {5, 0, 14}, new int[] {6, 0, 1}, new int[] {59, 0, 100});
+        Check.due("the lesser power", 9998, row.power(-4));
+        Check.due("99.98 hundredths are below 100", 1, row.peaks(100));
+    }
+
+    private static void duePeaks(String what, int peaks, int found, int[]... pulses) {
+        Beamrow row = pulses(pulses);
+        Check.due(what + ": peaks", peaks, row.peaks(1));
+        Check.due(what + ": found", found, row.found(0));
+    }
+
+    private static void theLastBearingsBelowOrAlikeTheirNeighbour() {
+        duePeaks("ahead of all times", 0, Beamrow.NONE, new int[] {3, 0, 10});
+        duePeaks("-4 alone", 1, -4, new int[] {4, 0, 10});
+        duePeaks("-4 alone, its last tick", 1, -4, new int[] {6, 0, 10});
+        duePeaks("-4 and -3 alike", 0, -4, new int[] {7, 0, 10});
+        duePeaks("all alike", 0, -4, new int[] {30, 0, 10});
+        duePeaks("3 and 4 alike", 0, 3, new int[] {56, 0, 10});
+        duePeaks("4 alone, its first tick", 1, 4, new int[] {57, 0, 10});
+        duePeaks("4 alone", 1, 4, new int[] {59, 0, 10});
+        duePeaks("behind all times", 0, Beamrow.NONE, new int[] {60, 0, 10});
+        duePeaks("-4 below all others", 0, -3, new int[] {4, 0, 1}, new int[] {36, 0, 5});
+        duePeaks("4 below all others", 0, -4, new int[] {27, 0, 5}, new int[] {59, 0, 1});
+        duePeaks("-4 above -3, that above all others", 1, -4, new int[] {4, 0, 1}, new int[] {7, 0, 5});
     }
 }

@@ -8,8 +8,13 @@ public final class SourceTest {
         wavesOfAnOddPeriod();
         wavesAreDelayedByBearing();
         wavesAreHeldBackByLag();
+        wavesOfTimesBelowAndFarAbove0();
+        delaysAreRoundedDownForAllBearings();
+        eachSourceIsDelayedForItsOwnBearing();
         wavesAreTurnedByGainAllTogether();
+        theLoudestSamples();
         silenceTakesAllAway();
+        silenceFreesAllPlaces();
         Check.end();
     }
 
@@ -117,5 +122,89 @@ public final class SourceTest {
         Check.due("sources are numbered from 0 again", 0, row.source(0, 3, 2));
         row.hear(1);
         Check.due("only the new source is heard", 3, row.sample(0, 0));
+    }
+
+    /** By its delay and its lag an element hears at a tick what is of a time so much later. */
+    private static void dueWaves(int period, int bearing, int lag, int later) {
+        Beamrow row = new Beamrow();
+        row.element(12, 64, lag);
+        row.source(bearing, 5, period);
+        row.hear(48);
+        for (int tick = 0; tick < 48; tick++) {
+            int remainder = tick + later;
+            while (remainder < 0) {
+                remainder += period;
+            }
+            while (remainder >= period) {
+                remainder -= period;
+            }
+            Check.due("period " + period + " at time " + (tick + later), remainder < period / 2 ? 5 : -5,
+                    row.sample(0, 47 - tick));
+        }
+    }
+
+    private static void wavesOfTimesBelowAndFarAbove0() {
+        for (int period = 2; period <= 16; period++) {
+            dueWaves(period, 4, 3, -15);
+            dueWaves(period, 0, 1, -1);
+            dueWaves(period, -4, -3, 15);
+        }
+    }
+
+    private static void delaysAreRoundedDownForAllBearings() {
+        for (int position = 0; position <= 12; position++) {
+            for (int bearing = -4; bearing <= 4; bearing++) {
+                // Delays of -12 to 12 alike by one of these periods are not alike by the other.
+                for (int period : new int[] {15, 16}) {
+                    Beamrow row = new Beamrow();
+                    row.element(position, 64, 0);
+                    row.source(bearing, 5, period);
+                    row.hear(32);
+                    for (int tick = 0; tick < 32; tick++) {
+                        int remainder = (tick - Sounds.delay(position, bearing) + 2 * period) % period;
+                        Check.due("position " + position + ", bearing " + bearing + ", tick " + tick,
+                                remainder < period / 2 ? 5 : -5, row.sample(0, 31 - tick));
+                    }
+                }
+            }
+        }
+    }
+
+    private static void eachSourceIsDelayedForItsOwnBearing() {
+        Beamrow row = new Beamrow();
+        row.element(12, 64, 0);
+        row.source(4, 1, 16);
+        row.source(-4, 10, 16);
+        row.source(0, 100, 16);
+        row.hear(5);
+        // At tick 0 their times are -12, 12 and 0; at tick 4 they are -8, 16 and 4.
+        Check.due("tick 0", 1 - 10 + 100, row.sample(0, 4));
+        Check.due("tick 4", -1 + 10 + 100, row.sample(0, 0));
+    }
+
+    private static void theLoudestSamples() {
+        Beamrow row = new Beamrow();
+        row.element(0, 96, 0);
+        row.element(0, 32, 0);
+        for (int i = 0; i < 4; i++) {
+            row.source(0, 100, 2);
+        }
+        row.hear(2);
+        Check.due("four of 100 by 96 64ths", 600, row.sample(0, 1));
+        Check.due("four of -100 by 96 64ths", -600, row.sample(0, 0));
+        Check.due("four of 100 by 32 64ths", 200, row.sample(1, 1));
+        Check.due("four of -100 by 32 64ths", -200, row.sample(1, 0));
+    }
+
+    private static void silenceFreesAllPlaces() {
+        Beamrow row = new Beamrow();
+        for (int round = 0; round < 3; round++) {
+            for (int i = 0; i < 4; i++) {
+                Check.due("source of a round", i, row.source(0, 1, 2));
+            }
+            Check.dueThrow("a fifth source of a round", Check.STATE, () -> row.source(0, 1, 2));
+            Check.due("silence of a round", 4, row.silence());
+        }
+        Check.due("silence of none", 0, row.silence());
     }
 }
